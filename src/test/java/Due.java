@@ -6,13 +6,21 @@ final class Due {
 
     private int wrong = 0;
     private int asked = 0;
+    private int sentences = 0;
+    private String sentence = "";
+
+    /** All that is asked from here on holds one sentence of the document, told in its own words. */
+    void sentence(String place, String words) {
+        sentences++;
+        sentence = place + ", \"" + words + "\": ";
+    }
 
     void is(Object want, String call, Call made) {
         String got = told(made);
         asked++;
         if (!got.equals(String.valueOf(want))) {
             wrong++;
-            System.out.println(call + " answered " + got + ", due is " + want);
+            System.out.println(sentence + call + " answered " + got + ", due is " + want);
         }
     }
 
@@ -38,7 +46,7 @@ final class Due {
     }
 
     void end() {
-        System.out.println(asked + " answers asked, " + wrong + " wrong");
+        System.out.println(sentences + " sentences, " + asked + " answers asked, " + wrong + " wrong");
         if (wrong != 0 || asked == 0) {
             System.exit(1);
         }

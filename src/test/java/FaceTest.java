@@ -3,7 +3,9 @@ import java.lang.reflect.Field;
 import java.lang.reflect.Member;
 import java.lang.reflect.Method;
 import java.lang.reflect.Modifier;
+import java.util.ArrayList;
 import java.util.Arrays;
+import java.util.List;
 import java.util.Set;
 import java.util.TreeSet;
 
@@ -25,9 +27,12 @@ public final class FaceTest {
     };
 
     public static void main(String[] args) {
+        DUE.sentence("The public face", "public final class SureCount");
         DUE.is(new TreeSet<>(Arrays.asList(FACE)), "the face", FaceTest::shown);
         DUE.is(Modifier.PUBLIC | Modifier.FINAL, "the class's modifiers", () -> SureCount.class.getModifiers());
+        DUE.is("[]", "members neither private nor public", FaceTest::halfShown);
         DUE.is("[]", "private methods that bear a public one's name", FaceTest::doubled);
+        DUE.is("public static final", "NONE's modifiers", FaceTest::modifiersOfNone);
         DUE.end();
     }
 
@@ -51,6 +56,28 @@ public final class FaceTest {
             }
         }
         return shown;
+    }
+
+    private static Set<String> halfShown() {
+        List<Member> members = new ArrayList<>(Arrays.asList(SureCount.class.getDeclaredFields()));
+        members.addAll(Arrays.asList(SureCount.class.getDeclaredConstructors()));
+        members.addAll(Arrays.asList(SureCount.class.getDeclaredMethods()));
+        Set<String> halfShown = new TreeSet<>();
+        for (Member m : members) {
+            if (isShown(m) && !Modifier.isPublic(m.getModifiers())) {
+                halfShown.add(m.getName());
+            }
+        }
+        return halfShown;
+    }
+
+    private static String modifiersOfNone() {
+        for (Field f : SureCount.class.getDeclaredFields()) {
+            if (f.getName().equals("NONE")) {
+                return Modifier.toString(f.getModifiers());
+            }
+        }
+        return "there is no NONE";
     }
 
     private static boolean isShown(Member m) {

@@ -1,154 +1,353 @@
-import java.math.BigInteger;
-import java.util.Arrays;
-
-/** Promises 16 to 19: risk, taken, taint, need. */
+/** Promises 16 to 18: risk, taken, taint. */
 public final class RiskTest {
     private static final Due DUE = new Due();
-    private static final int FULL = 1_000_000_000;
+    private static final int FULL = Risks.FULL;
     private static final int NOT_TAKEN = -10;
+    private static final int BLANK = 0;
+    private static final int NOT_ON_IT = 7;
 
     public static void main(String[] args) {
-        promise16RiskOfOneDraw();
-        promise16RiskGoesOn();
-        promise16RiskIsNone();
-        promise16LargestNumbers();
+        riskAheadOfAllDraws();
+        riskGoesOnDrawByDraw();
+        riskAsFarAsReadOrLost();
+        riskFollowsFurtherHands();
+        xOfWordAndReading();
+        xOfLostPapers();
+        xOfSeveralLosersOrWinners();
+        taintIsTheGreatestQuotient();
+        taintOfLikeOnes();
+        taintOfTheLastPair();
+        riskByMarginOfRaceAndOfPair();
+        riskIsCutUp();
+        riskIsAtMostFull();
+        riskIsNeverNone();
+        riskOfLargestNumbers();
+        drawsThatAreNotTaken();
+        drawsOfLostPapersThatAreNotTaken();
+        hasItByTheReadingAlone();
+        promise16MarginIsNone();
+        promise16NotSealed();
         promise17Taken();
-        promise17TakenByWordOrReading();
-        promise18Taint();
-        promise18TaintOfLikeOnes();
-        promise18TaintIsTheGreatestQuotient();
-        promise18TaintBehindOneThatWaits();
-        promise19Need();
-        promise19NeedOfSmallRisks();
-        promise19NeedIsNone();
+        promise17NoneWhereRiskIsNone();
+        promise18NotTakenAsYet();
+        promise18RiskIsNone();
+        promise18NoSuchDraw();
         DUE.end();
     }
 
-    /** Draw 0 is of paper 8, whose word is 2, the loser; N is 10, V and m are 2. */
-    private static void promise16RiskOfOneDraw() {
-        int[] marks = {2, 0, 7, 1};
-        int[] risks = {909090910, 625000000, 625000000, 476190477};
-        int[] gaps = {0, -1, -1, -2};
-        for (int i = 0; i < marks.length; i++) {
-            SureCount x = Offices.sixToFour();
-            DUE.is(FULL, "ahead of all draws: risk(0)", () -> x.risk(0));
-            x.draw(1);
-            DUE.is(FULL, "ahead of all readings: risk(0)", () -> x.risk(0));
-            x.read(8, 1, marks[i]);
-            DUE.is(risks[i], "2 read as " + marks[i] + ": risk(0)", () -> x.risk(0));
-            DUE.is(gaps[i], "2 read as " + marks[i] + ": taint(0, 0)", () -> x.taint(0, 0));
-        }
+    private static void riskAheadOfAllDraws() {
+        DUE.sentence("Terms", "RISK of a RACE, in billionths: 1,000,000,000 ahead of all DRAWS");
+        SureCount x = Offices.sixToFour();
+        DUE.is(FULL, "no draws: risk(0)", () -> x.risk(0));
+        x.read(8, 0, 1);
+        x.lose(1, true);
+        DUE.is(FULL, "papers read and lost, no draws: risk(0)", () -> x.risk(0));
+        x.draw(0);
+        DUE.is(FULL, "draw(0): risk(0)", () -> x.risk(0));
+        x.lose(1, false);
+        x.draw(1);
+        DUE.is(476190477, "then drawn: risk(0)", () -> x.risk(0));
+    }
+
+    /** The draws are of 8, 1, 3, 3; X of 2 makes RISK ten times what it was, but at most 1,000,000,000. */
+    private static void riskGoesOnDrawByDraw() {
+        DUE.sentence("Terms", "it goes on DRAW by DRAW (from the first on");
+        SureCount first = Offices.sixToFour();
+        first.draw(4);
+        first.read(8, 0, 1);
+        first.read(1, 0, 2);
+        first.read(3, 0, 1);
+        DUE.is(826446282, "X -2, 2, 0, 0: risk(0)", () -> first.risk(0));
+        SureCount last = Offices.sixToFour();
+        last.draw(4);
+        last.read(8, 0, 1);
+        last.read(1, 0, 1);
+        last.read(3, 0, 2);
+        DUE.is(FULL, "X -2, 0, 2, 2: risk(0)", () -> last.risk(0));
+        SureCount slight = Offices.sixToFour();
+        slight.draw(4);
+        slight.read(8, 0, 1);
+        slight.read(1, 0, BLANK);
+        slight.read(3, 0, 1);
+        DUE.is(655909749, "X -2, 1, 0, 0: risk(0)", () -> slight.risk(0));
+    }
+
+    private static void riskAsFarAsReadOrLost() {
+        DUE.sentence("Terms", "as far as their PAPERS are READ or LOST");
+        SureCount x = Offices.sixToFour();
+        x.draw(4);
+        x.read(3, 0, 1);
+        x.lose(1, true);
+        DUE.is(FULL, "draw 0 waits: risk(0)", () -> x.risk(0));
+        x.lose(1, false);
+        x.read(8, 0, 1);
+        DUE.is(476190477, "draw 1 waits: risk(0)", () -> x.risk(0));
+        x.read(1, 0, 1);
+        DUE.is(357768955, "none waits: risk(0)", () -> x.risk(0));
+        SureCount lost = Offices.sixToFour();
+        lost.draw(4);
+        lost.read(8, 0, 2);
+        lost.read(1, 0, 1);
+        DUE.is(826446282, "draw 2 waits: risk(0)", () -> lost.risk(0));
+        lost.lose(3, true);
+        DUE.is(FULL, "its paper is lost: risk(0)", () -> lost.risk(0));
+        lost.lose(3, false);
+        DUE.is(826446282, "found again it waits: risk(0)", () -> lost.risk(0));
+    }
+
+    private static void riskFollowsFurtherHands() {
+        DUE.sentence("Terms", "less the same of THE READING");
         SureCount x = Offices.sixToFour();
         x.draw(1);
-        x.lose(8, true);
-        DUE.is(909090910, "a lost loser's: risk(0)", () -> x.risk(0));
-        DUE.is(0, "a lost loser's: taint(0, 0)", () -> x.taint(0, 0));
-    }
-
-    /** The draws are of 8, 1, 3, 3. */
-    private static void promise16RiskGoesOn() {
-        SureCount x = Offices.sixToFour();
-        x.draw(4);
-        x.read(3, 0, 1);
-        DUE.is(FULL, "draw 0 waits", () -> x.risk(0));
         x.read(8, 0, 1);
-        DUE.is(476190477, "draw 1 waits", () -> x.risk(0));
-        x.read(1, 0, 0);
-        DUE.is(655909749, "all the way: 5 / 3, then 10 / 11 twice", () -> x.risk(0));
-        x.read(1, 1, 2);
-        DUE.is(655909749, "hands disagree: blank too", () -> x.risk(0));
-        x.read(1, 2, 2);
-        DUE.is(826446282, "at most 1,000,000,000, then 10 / 11 twice", () -> x.risk(0));
-        SureCount y = Offices.sixToFour();
-        y.draw(4);
-        y.read(8, 0, 2);
-        y.read(1, 0, 1);
-        y.lose(3, true);
-        DUE.is(FULL, "a lost winner's twice: at most 1,000,000,000", () -> y.risk(0));
-        DUE.is(2, "a lost winner's: taint(0, 3)", () -> y.taint(0, 3));
-        y.lose(3, false);
-        DUE.is(826446282, "found again it waits", () -> y.risk(0));
+        DUE.is(476190477, "one hand: risk(0)", () -> x.risk(0));
+        x.read(8, 1, 2);
+        DUE.is(625000000, "two that disagree: risk(0)", () -> x.risk(0));
+        x.read(8, 2, 2);
+        DUE.is(909090910, "two of three agree: risk(0)", () -> x.risk(0));
+        DUE.is(0, "taint(0, 0)", () -> x.taint(0, 0));
     }
 
-    private static void promise16RiskIsNone() {
+    /** What a mark gives the winner 1 less what it gives the loser 2. */
+    private static int lead(int mark) {
+        return mark == 1 ? 1 : mark == 2 ? -1 : 0;
+    }
+
+    /** Five papers for 1 and two for 2, all read as their words, and paper 0 with a word of its own. */
+    private static SureCount besidePaperNone(int word) {
+        SureCount x = Offices.withWords(2, 1, word, 1, 1, 1, 1, 1, 2, 2);
+        x.seal(Offices.seedThatDraws(0));
+        x.draw(20);
+        for (int p = 1; p <= 7; p++) {
+            x.read(p, 0, p <= 5 ? 1 : 2);
+        }
+        return x;
+    }
+
+    private static void xOfWordAndReading() {
+        DUE.sentence("Terms", "X is what THE WORD gives w less what it gives l (each 1 or 0), less the same of");
+        int[] marks = {BLANK, 1, 2, NOT_ON_IT};
+        for (int word : marks) {
+            for (int reading : marks) {
+                SureCount x = besidePaperNone(word);
+                x.read(0, 0, reading);
+                int size = word == NOT_ON_IT ? 7 : 8;
+                int margin = 3 + lead(word);
+                int gap = lead(word) - lead(reading);
+                String what = word + " read as " + reading + ": ";
+                if (word != NOT_ON_IT || reading != NOT_ON_IT) {
+                    DUE.is(gap, what + "taint(0, 0)", () -> x.taint(0, 0));
+                    DUE.is(Risks.behindAll(x, size, margin, 0, gap, margin), what + "risk(0)", () -> x.risk(0));
+                }
+            }
+        }
+    }
+
+    private static void xOfLostPapers() {
+        DUE.sentence("Terms", "of a LOST PAPER what THE WORD gives w less what it gives l, and 1");
+        int[] marks = {BLANK, 1, 2};
+        int[] gaps = {1, 2, 0};
+        for (int i = 0; i < marks.length; i++) {
+            SureCount x = besidePaperNone(marks[i]);
+            x.lose(0, true);
+            int margin = 3 + lead(marks[i]);
+            int gap = gaps[i];
+            DUE.is(gap, "lost, its word " + marks[i] + ": taint(0, 0)", () -> x.taint(0, 0));
+            DUE.is(Risks.behindAll(x, 8, margin, 0, gap, margin), "lost, its word " + marks[i] + ": risk(0)",
+                    () -> x.risk(0));
+        }
+    }
+
+    /** X at the first draw of paper 0, whose word and reading are told; the votes are those of the other papers. */
+    private static int taintOf(int word, int reading, int candidates, int winners, int... votes) {
+        SureCount x = ofPaperNone(word, candidates, winners, votes);
+        x.read(0, 0, reading);
+        return x.taint(0, 0);
+    }
+
+    private static int taintOfLost(int word, int candidates, int winners, int... votes) {
+        SureCount x = ofPaperNone(word, candidates, winners, votes);
+        x.lose(0, true);
+        return x.taint(0, 0);
+    }
+
+    private static SureCount ofPaperNone(int word, int candidates, int winners, int... votes) {
+        SureCount x = new SureCount();
+        x.race(candidates, winners);
+        x.box();
+        x.paper(0, word);
+        for (int other : Offices.words(votes)) {
+            x.paper(0, other);
+        }
+        x.seal(Offices.seedThatDraws(0));
+        x.draw(1);
+        return x;
+    }
+
+    private static void xOfSeveralLosersOrWinners() {
+        DUE.sentence("Terms", "Of a DRAW and a WINNER w over a LOSER l, with the MARGIN m of them");
+        DUE.is(1, "lost, for a loser: the other loser", () -> taintOfLost(2, 3, 1, 6, 1, 2));
+        DUE.is(2, "lost, for the winner", () -> taintOfLost(1, 3, 1, 5, 2, 2));
+        DUE.is(0, "lost, for the only loser", () -> taintOfLost(3, 3, 2, 5, 5, 0));
+        DUE.is(2, "lost, for the lesser winner", () -> taintOfLost(2, 3, 2, 6, 3, 1));
+        DUE.is(1, "one loser read as another", () -> taintOf(2, 3, 3, 1, 6, 1, 2));
+        DUE.is(1, "one winner read as another", () -> taintOf(1, 2, 3, 2, 5, 5, 1));
+        DUE.is(-1, "a loser read as one of two winners", () -> taintOf(3, 1, 3, 2, 5, 5, 0));
+        DUE.is(0, "like word and reading", () -> taintOf(4, 4, 6, 3, 9, 8, 7, 2, 2, 2));
+    }
+
+    private static void taintIsTheGreatestQuotient() {
+        DUE.sentence("Terms", "TAINT of the DRAW: of all such X / m the greatest; that X and that m");
+        DUE.is(1, "1 / 1 is above 2 / 4", () -> taintOf(1, 3, 3, 1, 5, 5, 2));
+        DUE.is(2, "2 / 5 is above 1 / 4", () -> taintOf(1, 3, 3, 1, 6, 3, 2));
+        DUE.is(2, "2 / 3 is above 1 / 2", () -> taintOf(1, 3, 3, 1, 5, 4, 3));
+        DUE.is(-2, "-2 / 4 is above -1 / 1", () -> taintOf(3, 1, 3, 1, 6, 5, 1));
+        DUE.is(-1, "-1 / 3 is above -2 / 3", () -> taintOf(3, 1, 3, 1, 6, 3, 2));
+        DUE.is(0, "0 is above -1", () -> taintOf(3, BLANK, 3, 1, 6, 3, 2));
+    }
+
+    private static void taintOfLikeOnes() {
+        DUE.sentence("Terms", "of like ones the first w, then the first l, WINNERS and LOSERS by their numbers");
+        DUE.is(1, "6, 4, 2 votes, 1 read as 3: 1 / 2 over 2, 2 / 4 over 3", () -> taintOf(1, 3, 3, 1, 5, 4, 2));
+        DUE.is(2, "6, 2, 4 votes, 1 read as 2: 2 / 4 over 2, 1 / 2 over 3", () -> taintOf(1, 2, 3, 1, 5, 2, 4));
+        DUE.is(2, "6, 4, 2 votes, 1 read as 3: 2 / 4 of 1, 1 / 2 of 2", () -> taintOf(1, 3, 3, 2, 5, 4, 2));
+        DUE.is(1, "4, 6, 2 votes, 2 read as 3: 1 / 2 of 1, 2 / 4 of 2", () -> taintOf(2, 3, 3, 2, 4, 5, 2));
+        DUE.is(-1, "5, 3, 1 votes, 3 read as 1: -1 / 2 over 2, -2 / 4 over 3", () -> taintOf(3, 1, 3, 1, 5, 3, 0));
+        DUE.is(-2, "5, 1, 3 votes, 2 read as 1: -2 / 4 over 2, -1 / 2 over 3", () -> taintOf(2, 1, 3, 1, 5, 0, 3));
+    }
+
+    private static void taintOfTheLastPair() {
+        DUE.sentence("Terms", "with the MARGIN m of them");
+        DUE.is(2, "3 read as 6, the last winner and the last loser", () -> taintOf(3, 6, 6, 3, 9, 8, 4, 1, 2, 4));
+        DUE.is(2, "5 read as 6, five winners", () -> taintOf(5, 6, 6, 5, 9, 9, 9, 9, 3, 2));
+        DUE.is(2, "1 read as 6, five losers", () -> taintOf(1, 6, 6, 1, 8, 1, 2, 3, 4, 5));
+    }
+
+    /** 6, 5 and 2 votes and a blank paper: V is 1, the MARGIN of 1 over 3 is 4. */
+    private static void riskByMarginOfRaceAndOfPair() {
+        DUE.sentence("Terms", "RISK * (22 N - 10 V) * 22 m / (22 N * (22 m - 10 X V))");
+        int[] words = {BLANK, 1, 1, 1, 1, 1, 1, 2, 2, 2, 2, 2, 3, 3};
+        int[] tainted = {0, 0, 13, 13, 1};
+        int[] readings = {3, 1, 1, BLANK, 3};
+        int[] gaps = {1, -1, -2, 0, 1};
+        int[] margins = {4, 4, 4, 1, 1};
+        for (int i = 0; i < tainted.length; i++) {
+            SureCount x = Offices.withWords(3, 1, words);
+            x.seal(21);
+            x.draw(60);
+            for (int p = 0; p < words.length; p++) {
+                x.read(p, 1, p == tainted[i] ? readings[i] : words[p]);
+            }
+            String what = words[tainted[i]] + " read as " + readings[i] + ": ";
+            int gap = gaps[i];
+            int draw = Offices.firstDrawOf(x, tainted[i]);
+            DUE.is(gap, what + "taint(0, " + draw + ")", () -> x.taint(0, draw));
+            DUE.is(Risks.behindAll(x, 14, 1, tainted[i], gap, margins[i]), what + "risk(0)", () -> x.risk(0));
+        }
+    }
+
+    private static void riskIsCutUp() {
+        DUE.sentence("Terms", "cut up to a whole number");
+        int[] readings = {2, BLANK, 1};
+        // 909,090,909 and 1 / 11; 625,000,000 and none; 476,190,476 and 4 / 21.
+        int[] risks = {909090910, 625000000, 476190477};
+        for (int i = 0; i < readings.length; i++) {
+            SureCount x = Offices.sixToFour();
+            x.draw(1);
+            x.read(8, 0, readings[i]);
+            DUE.is(risks[i], "2 read as " + readings[i] + ": risk(0)", () -> x.risk(0));
+        }
+        SureCount again = Offices.sixToFour();
+        again.draw(2);
+        again.read(8, 0, BLANK);
+        again.read(1, 0, 1);
+        // 568,181,818 and 2 / 11.
+        DUE.is(568181819, "one more: risk(0)", () -> again.risk(0));
+    }
+
+    private static void riskIsAtMostFull() {
+        DUE.sentence("Terms", "but at most 1,000,000,000");
+        SureCount first = Offices.sixToFour();
+        first.draw(2);
+        first.read(8, 0, 2);
+        first.read(1, 0, 2);
+        DUE.is(FULL, "ten times 909,090,910: risk(0)", () -> first.risk(0));
+        SureCount slight = Offices.sixToFour();
+        slight.draw(2);
+        slight.read(8, 0, BLANK);
+        slight.read(1, 0, BLANK);
+        DUE.is(FULL, "5 / 3 of 625,000,000: risk(0)", () -> slight.risk(0));
+        SureCount below = Offices.sixToFour();
+        below.draw(2);
+        below.read(8, 0, 1);
+        below.read(1, 0, BLANK);
+        DUE.is(793650795, "5 / 3 of 476,190,477: risk(0)", () -> below.risk(0));
+        // Where all papers are for one, an X of 1 leaves RISK as it is.
+        SureCount all = Offices.withWords(2, 1, 1, 1, 1);
+        all.seal(Offices.seedThatDraws(0));
+        all.draw(1);
+        all.read(0, 0, BLANK);
+        DUE.is(FULL, "just 1,000,000,000: risk(0)", () -> all.risk(0));
+        DUE.is(1, "just 1,000,000,000: taint(0, 0)", () -> all.taint(0, 0));
+        all.draw(20);
+        all.read(1, 0, 1);
+        all.read(2, 0, 1);
+        DUE.is(Risks.behindAll(all, 3, 3, 0, 1, 3), "20 more: risk(0)", () -> all.risk(0));
+    }
+
+    /** An X of -2 makes less than half of RISK: 1, cut up, stays 1. */
+    private static void riskIsNeverNone() {
+        DUE.sentence("Terms", "cut up to a whole number");
         SureCount x = Offices.withWords(2, 1, 1, 1, 2);
-        DUE.is(-1, "unsealed: risk(0)", () -> x.risk(0));
-        DUE.noSuchElement("risk(1)", () -> x.risk(1));
-        DUE.noSuchElement("risk(-1)", () -> x.risk(-1));
-        SureCount y = Offices.sealedAndDrawn(Offices.withWords(2, 1, 1, 2), 5);
-        DUE.is(-1, "a margin of 0: risk(0)", () -> y.risk(0));
-        y.read(0, 0, 1);
-        y.read(1, 0, 0);
-        DUE.is(-1, "a margin of 0 by the word stays: risk(0)", () -> y.risk(0));
-        SureCount z = Offices.sealedAndDrawn(Offices.withWords(2, 1, 7, 7), 5);
-        DUE.is(-1, "a race on no paper: risk(0)", () -> z.risk(0));
+        x.seal(4);
+        for (int i = 0; i < 20; i++) {
+            x.draw(100);
+        }
+        x.read(0, 0, 1);
+        x.read(1, 0, 1);
+        x.read(2, 0, 1);
+        DUE.is(1, "2,000 draws: risk(0)", () -> x.risk(0));
+        DUE.is(2000, "2,000 draws: taken(0)", () -> x.taken(0));
+        SureCount clean = Offices.sixToFour();
+        for (int i = 0; i < 20; i++) {
+            clean.draw(100);
+        }
+        for (int p = 0; p < 10; p++) {
+            clean.read(p, 0, p < 6 ? 1 : 2);
+        }
+        DUE.is(10, "2,000 draws without a taint: risk(0)", () -> clean.risk(0));
+        DUE.is(2000, "2,000 draws without a taint: taken(0)", () -> clean.taken(0));
+        DUE.is(0, "the last of them: taint(0, 1999)", () -> clean.taint(0, 1999));
+        DUE.noSuchElement("taint(0, 2000)", () -> clean.taint(0, 2000));
     }
 
-    private static void promise16LargestNumbers() {
-        int[] words = new int[300];
-        Arrays.fill(words, 1);
+    private static void riskOfLargestNumbers() {
+        DUE.sentence("Terms", "(22 N - 10 V) * 22 m / (22 N * (22 m - 10 X V))");
+        largestNumbers(new int[] {300, 0}, 300, 1);
+        largestNumbers(new int[] {300, 0}, 300, BLANK);
+        largestNumbers(new int[] {300, 0}, 300, 2);
+        largestNumbers(new int[] {151, 149}, 2, 1);
+        largestNumbers(new int[] {299, 1}, 298, 1);
+    }
+
+    /** 300 papers, the first 40 draws of which are read as their words, but the first one by this mark. */
+    private static void largestNumbers(int[] votes, int margin, int mark) {
+        int[] words = Offices.words(votes);
         SureCount x = Offices.withWords(2, 1, words);
-        x.seal(99);
-        x.draw(3);
-        for (int d = 0; d < 3; d++) {
-            x.read(x.drawn(d), 0, 1);
+        x.seal(Offices.seedThatDraws(0));
+        x.draw(40);
+        int risk = FULL;
+        for (int d = 0; d < 40; d++) {
+            int paper = x.drawn(d);
+            int reading = paper == 0 ? mark : words[paper];
+            x.read(paper, 0, reading);
+            risk = Risks.carried(risk, 300, margin, lead(words[paper]) - lead(reading), margin);
         }
-        int due = FULL;
-        for (int d = 0; d < 3; d++) {
-            due = carried(due, 300, 300, 0, 300);
-        }
-        int last = due;
-        DUE.is(last, "300 papers, all for one: risk(0)", () -> x.risk(0));
-        SureCount y = Offices.withWords(2, 1, words);
-        y.seal(99);
-        y.draw(1);
-        y.read(y.drawn(0), 0, 2);
-        DUE.is(FULL, "300 papers, the worst: risk(0)", () -> y.risk(0));
-        DUE.is(2, "300 papers, the worst: taint(0, 0)", () -> y.taint(0, 0));
-    }
-
-    private static void promise17Taken() {
-        SureCount x = Offices.sixToFour();
-        DUE.is(0, "no draws: taken(0)", () -> x.taken(0));
-        x.draw(4);
-        DUE.is(0, "none read: taken(0)", () -> x.taken(0));
-        x.read(3, 0, 1);
-        DUE.is(0, "draw 0 waits: taken(0)", () -> x.taken(0));
-        x.lose(8, true);
-        DUE.is(1, "a lost one is taken", () -> x.taken(0));
-        x.read(1, 0, 7);
-        DUE.is(4, "on it by the word alone; one drawn twice", () -> x.taken(0));
-        DUE.noSuchElement("taken(1)", () -> x.taken(1));
-        DUE.noSuchElement("taken(-1)", () -> x.taken(-1));
-        SureCount y = Offices.sealedAndDrawn(Offices.withWords(2, 1, 1, 2), 5);
-        y.read(0, 0, 1);
-        y.read(1, 0, 2);
-        DUE.is(0, "a margin of 0: taken(0)", () -> y.taken(0));
-        DUE.is(0, "unsealed: taken(0)", () -> Offices.withWords(2, 1, 1).taken(0));
+        DUE.is(risk, "300 papers, margin " + margin + ", one read as " + mark + ": risk(0)", () -> x.risk(0));
+        DUE.is(40, "taken(0)", () -> x.taken(0));
     }
 
     /** Draw 0 is of paper 8, which by the word doesn't have race 1; of race 1 N is 9, V and m are 5. */
-    private static void promise17TakenByWordOrReading() {
-        int[] marks = {7, 0, 1, 2};
-        int[] taints = {NOT_TAKEN, 0, -1, 1};
-        for (int i = 0; i < marks.length; i++) {
-            SureCount x = offTheEighth();
-            x.read(8, 0, 2 + 8 * marks[i]);
-            int due = taints[i];
-            DUE.is(due == NOT_TAKEN ? 0 : 1, "read as " + marks[i] + ": taken(1)", () -> x.taken(1));
-            DUE.is(due, "read as " + marks[i] + ": taint(1, 0)", () -> x.taint(1, 0));
-            DUE.is(due == NOT_TAKEN ? FULL : carried(FULL, 9, 5, due, 5), "read as " + marks[i] + ": risk(1)",
-                    () -> x.risk(1));
-            DUE.is(1, "taken(0)", () -> x.taken(0));
-        }
-        SureCount x = offTheEighth();
-        x.lose(8, true);
-        DUE.is(0, "lost: taken(1)", () -> x.taken(1));
-        DUE.is(NOT_TAKEN, "lost: taint(1, 0)", () -> x.taint(1, 0));
-        DUE.is(FULL, "lost: risk(1)", () -> x.risk(1));
-        DUE.is(1, "lost: taken(0)", () -> x.taken(0));
-    }
-
     private static SureCount offTheEighth() {
         SureCount x = new SureCount();
         x.race(2, 1);
@@ -159,168 +358,149 @@ public final class RiskTest {
             x.paper(0, (p < 6 ? 1 : 2) + 8 * second[p]);
         }
         x.seal(7);
-        x.draw(1);
-        return x;
-    }
-
-    /** Draw 1 is of paper 1, whose word is 1, the winner. */
-    private static void promise18Taint() {
-        int[] marks = {1, 0, 7, 2};
-        int[] gaps = {0, 1, 1, 2};
-        for (int i = 0; i < marks.length; i++) {
-            SureCount x = Offices.sixToFour();
-            x.draw(2);
-            x.read(8, 0, 2);
-            DUE.is(NOT_TAKEN, "as yet: taint(0, 1)", () -> x.taint(0, 1));
-            x.read(1, 0, marks[i]);
-            DUE.is(gaps[i], "1 read as " + marks[i] + ": taint(0, 1)", () -> x.taint(0, 1));
-        }
-        SureCount x = Offices.sixToFour();
-        DUE.noSuchElement("no draws: taint(0, 0)", () -> x.taint(0, 0));
         x.draw(2);
-        DUE.noSuchElement("taint(0, 2)", () -> x.taint(0, 2));
-        DUE.noSuchElement("taint(0, -1)", () -> x.taint(0, -1));
-        DUE.noSuchElement("taint(1, 0)", () -> x.taint(1, 0));
-        DUE.noSuchElement("taint(-1, 0)", () -> x.taint(-1, 0));
-        SureCount y = Offices.sealedAndDrawn(Offices.withWords(2, 1, 1, 2), 5);
-        y.read(0, 0, 1);
-        y.read(1, 0, 2);
-        DUE.is(NOT_TAKEN, "a margin of 0: taint(0, 0)", () -> y.taint(0, 0));
-        DUE.noSuchElement("a margin of 0: taint(0, 100)", () -> y.taint(0, 100));
-    }
-
-    private static void promise18TaintOfLikeOnes() {
-        // 6, 4 and 2 votes: 1 / 2 over the first loser is like 2 / 4 over the second.
-        DUE.is(1, "the first loser", () -> taintOf(3, 1, 3, 6, 4, 2));
-        DUE.is(2, "the first winner", () -> taintOf(3, 2, 3, 6, 4, 2));
-        // 4, 6 and 2 votes: the first winner has the lesser margin.
-        DUE.is(2, "the first winner by its number, not by its votes", () -> taintOf(3, 2, 3, 4, 6, 2));
-        // The loser with fewer votes has the least number.
-        DUE.is(2, "the first loser by its number, not by its votes", () -> taintOf(3, 1, 2, 6, 2, 4));
-    }
-
-    private static void promise18TaintIsTheGreatestQuotient() {
-        DUE.is(1, "1 / 1 is above 2 / 4", () -> taintOf(3, 1, 3, 6, 5, 2));
-        DUE.is(2, "2 / 5 is above 1 / 4", () -> taintOf(3, 1, 3, 7, 3, 2));
-        int[] words = words(6, 5, 2);
-        SureCount x = allButLast(3, 1, words);
-        int draw = Offices.firstDrawOf(x, 12);
-        x.read(12, 0, 1);
-        DUE.is(-2, "-2 / 4 is above -1 / 1", () -> x.taint(0, draw));
-        int due = FULL;
-        for (int d = 0; d < x.count(4); d++) {
-            due = x.drawn(d) == 12 ? carried(due, 13, 1, -2, 4) : carried(due, 13, 1, 0, 1);
-        }
-        int last = due;
-        DUE.is(last, "with that X and that m: risk(0)", () -> x.risk(0));
-    }
-
-    /** X of a paper of candidate 1 that is read as a mark, all others as the word has them. */
-    private static int taintOf(int candidates, int winners, int mark, int... votes) {
-        int[] words = words(votes);
-        SureCount x = Offices.sealedAndDrawn(Offices.withWords(candidates, winners, words), 11);
-        x.read(0, 0, mark);
-        for (int p = 1; p < words.length; p++) {
-            x.read(p, 0, words[p]);
-        }
-        return x.taint(0, Offices.firstDrawOf(x, 0));
-    }
-
-    private static SureCount allButLast(int candidates, int winners, int[] words) {
-        SureCount x = Offices.sealedAndDrawn(Offices.withWords(candidates, winners, words), 11);
-        for (int p = 0; p < words.length - 1; p++) {
-            x.read(p, 0, words[p]);
-        }
         return x;
     }
 
-    private static int[] words(int... votes) {
-        int size = 0;
-        for (int v : votes) {
-            size += v;
-        }
-        int[] words = new int[size];
-        int next = 0;
-        for (int c = 1; c <= votes.length; c++) {
-            for (int i = 0; i < votes[c - 1]; i++) {
-                words[next] = c;
-                next++;
-            }
-        }
-        return words;
+    private static void drawsThatAreNotTaken() {
+        DUE.sentence("Terms", "a DRAW of a PAPER that doesn't have the RACE, by THE WORD nor by THE READING, isn't");
+        SureCount x = offTheEighth();
+        x.read(8, 0, 2 + 8 * NOT_ON_IT);
+        DUE.is(0, "on it by neither: taken(1)", () -> x.taken(1));
+        DUE.is(NOT_TAKEN, "on it by neither: taint(1, 0)", () -> x.taint(1, 0));
+        DUE.is(FULL, "on it by neither: risk(1)", () -> x.risk(1));
+        DUE.is(1, "the other race: taken(0)", () -> x.taken(0));
+        x.read(1, 0, 1 + 8 * NOT_ON_IT);
+        DUE.is(1, "on it by the word alone: taken(1)", () -> x.taken(1));
+        DUE.is(1, "on it by the word alone: taint(1, 1)", () -> x.taint(1, 1));
+        x.read(8, 1, 2 + 8);
+        DUE.is(2, "hands disagree, which is blank: taken(1)", () -> x.taken(1));
+        DUE.is(0, "hands disagree, which is blank: taint(1, 0)", () -> x.taint(1, 0));
     }
 
-    private static void promise18TaintBehindOneThatWaits() {
+    private static void drawsOfLostPapersThatAreNotTaken() {
+        DUE.sentence("Terms", "isn't taken for it (of a LOST one by THE WORD)");
+        SureCount x = offTheEighth();
+        x.lose(8, true);
+        DUE.is(0, "taken(1)", () -> x.taken(1));
+        DUE.is(NOT_TAKEN, "taint(1, 0)", () -> x.taint(1, 0));
+        DUE.is(FULL, "risk(1)", () -> x.risk(1));
+        DUE.is(1, "the other race: taken(0)", () -> x.taken(0));
+        x.lose(1, true);
+        DUE.is(1, "a lost one that has it: taken(1)", () -> x.taken(1));
+        DUE.is(2, "a lost one that has it: taint(1, 1)", () -> x.taint(1, 1));
+    }
+
+    private static void hasItByTheReadingAlone() {
+        DUE.sentence("Terms", "(A PAPER that has it by THE READING alone: THE WORD gives nothing to all.)");
+        int[] marks = {BLANK, 1, 2};
+        int[] gaps = {0, -1, 1};
+        for (int i = 0; i < marks.length; i++) {
+            SureCount x = offTheEighth();
+            x.read(8, 0, 2 + 8 * marks[i]);
+            String what = "read as " + marks[i] + ": ";
+            int gap = gaps[i];
+            DUE.is(1, what + "taken(1)", () -> x.taken(1));
+            DUE.is(gap, what + "taint(1, 0)", () -> x.taint(1, 0));
+            DUE.is(Risks.carried(FULL, 9, 5, gap, 5), what + "risk(1)", () -> x.risk(1));
+        }
+    }
+
+    private static void promise16MarginIsNone() {
+        DUE.sentence("Promise 16", "NONE: its MARGIN is 0");
+        SureCount like = Offices.sealedAndDrawn(Offices.withWords(2, 1, 1, 2), 5);
+        DUE.is(-1, "like votes: risk(0)", () -> like.risk(0));
+        like.read(0, 0, 1);
+        like.read(1, 0, BLANK);
+        DUE.is(-1, "otherwise by hands: risk(0)", () -> like.risk(0));
+        SureCount onNone = Offices.sealedAndDrawn(Offices.withWords(2, 1, 7, 7), 5);
+        DUE.is(-1, "on no paper: risk(0)", () -> onNone.risk(0));
+        SureCount blank = Offices.sealedAndDrawn(Offices.withWords(6, 5, 0, 0), 5);
+        DUE.is(-1, "all blank: risk(0)", () -> blank.risk(0));
+        SureCount lastSeat = Offices.sealedAndDrawn(Offices.withWords(3, 2, 1, 1, 2, 3), 5);
+        DUE.is(-1, "like votes for the last seat: risk(0)", () -> lastSeat.risk(0));
+        SureCount one = Offices.sealedAndDrawn(Offices.withWords(2, 1, 2), 5);
+        DUE.is(FULL, "a MARGIN of 1: risk(0)", () -> one.risk(0));
+        SureCount winners = Offices.sealedAndDrawn(Offices.withWords(3, 2, 1, 2), 5);
+        DUE.is(FULL, "like votes of winners: risk(0)", () -> winners.risk(0));
+    }
+
+    private static void promise16NotSealed() {
+        DUE.sentence("Promise 16", "or it isn't SEALED");
+        SureCount x = Offices.withWords(2, 1, 1, 1, 2);
+        DUE.is(-1, "risk(0)", () -> x.risk(0));
+        DUE.is(-1, "no papers: risk(0)", () -> Offices.withWords(2, 1).risk(0));
+        DUE.noSuchElement("risk(1)", () -> x.risk(1));
+        DUE.noSuchElement("risk(-1)", () -> x.risk(-1));
+        x.seal(1);
+        DUE.is(FULL, "sealed: risk(0)", () -> x.risk(0));
+    }
+
+    private static void promise17Taken() {
+        DUE.sentence("Promise 17", "How many DRAWS were taken for a RACE");
+        SureCount x = Offices.sixToFour();
+        DUE.is(0, "no draws: taken(0)", () -> x.taken(0));
+        x.draw(4);
+        DUE.is(0, "none read: taken(0)", () -> x.taken(0));
+        x.read(3, 0, 1);
+        DUE.is(0, "draw 0 waits: taken(0)", () -> x.taken(0));
+        x.lose(8, true);
+        DUE.is(1, "a lost one: taken(0)", () -> x.taken(0));
+        x.read(1, 0, NOT_ON_IT);
+        DUE.is(4, "a paper drawn twice is taken twice: taken(0)", () -> x.taken(0));
+        x.draw(0);
+        DUE.is(4, "draw(0): taken(0)", () -> x.taken(0));
+    }
+
+    private static void promise17NoneWhereRiskIsNone() {
+        DUE.sentence("Promise 17", "(0 where RISK is NONE)");
+        DUE.is(0, "not sealed: taken(0)", () -> Offices.withWords(2, 1, 1).taken(0));
+        SureCount x = Offices.sealedAndDrawn(Offices.withWords(2, 1, 1, 2), 5);
+        x.read(0, 0, 1);
+        x.read(1, 0, 2);
+        DUE.is(0, "a MARGIN of 0: taken(0)", () -> x.taken(0));
+    }
+
+    private static void promise18NotTakenAsYet() {
+        DUE.sentence("Promise 18", "NONE - 9: it isn't taken for it (as yet)");
         SureCount x = Offices.sixToFour();
         x.draw(4);
+        DUE.is(NOT_TAKEN, "not read: taint(0, 0)", () -> x.taint(0, 0));
         x.read(1, 0, 1);
         x.lose(3, true);
         DUE.is(NOT_TAKEN, "read, behind one that waits: taint(0, 1)", () -> x.taint(0, 1));
-        DUE.is(NOT_TAKEN, "lost, behind one that waits: taint(0, 2)", () -> x.taint(0, 2));
+        DUE.is(NOT_TAKEN, "lost, behind one that waits: taint(0, 3)", () -> x.taint(0, 3));
         x.read(8, 0, 2);
-        DUE.is(0, "no more waiting: taint(0, 1)", () -> x.taint(0, 1));
-        DUE.is(2, "no more waiting: taint(0, 2)", () -> x.taint(0, 2));
+        DUE.is(0, "none waits: taint(0, 0)", () -> x.taint(0, 0));
+        DUE.is(0, "none waits: taint(0, 1)", () -> x.taint(0, 1));
+        DUE.is(2, "none waits: taint(0, 3)", () -> x.taint(0, 3));
+        x.lose(3, false);
+        DUE.is(NOT_TAKEN, "found again it waits: taint(0, 2)", () -> x.taint(0, 2));
+        DUE.is(0, "ahead of it: taint(0, 1)", () -> x.taint(0, 1));
     }
 
-    private static void promise19Need() {
-        SureCount x = Offices.sixToFour();
-        DUE.is(0, "need(0, 1000000000)", () -> x.need(0, FULL));
-        DUE.is(1, "need(0, 999999999)", () -> x.need(0, FULL - 1));
-        DUE.is(1, "need(0, 909090910)", () -> x.need(0, 909090910));
-        DUE.is(2, "need(0, 909090909)", () -> x.need(0, 909090909));
-        DUE.is(8, "need(0, 500000000)", () -> x.need(0, 500000000));
-        x.draw(4);
-        DUE.is(8, "draws that wait change nothing", () -> x.need(0, 500000000));
-        x.read(8, 0, 2);
-        x.read(1, 0, 1);
-        x.read(3, 0, 1);
-        DUE.is(4, "behind four draws: need(0, 500000000)", () -> x.need(0, 500000000));
-        DUE.is(0, "it is sure: need(0, 683013457)", () -> x.need(0, 683013457));
-        DUE.is(1, "it isn't quite: need(0, 683013456)", () -> x.need(0, 683013456));
-        DUE.illegalArgument("need(0, -1)", () -> x.need(0, -1));
-        DUE.illegalArgument("need(0, 1000000001)", () -> x.need(0, FULL + 1));
-        DUE.illegalArgument("need(0, min)", () -> x.need(0, Integer.MIN_VALUE));
-        DUE.illegalArgument("need(0, max)", () -> x.need(0, Integer.MAX_VALUE));
-        DUE.noSuchElement("need(1, 5)", () -> x.need(1, 5));
-        DUE.noSuchElement("need(-1, 5)", () -> x.need(-1, 5));
+    private static void promise18RiskIsNone() {
+        DUE.sentence("Promise 18", "or RISK is NONE");
+        SureCount x = Offices.sealedAndDrawn(Offices.withWords(2, 1, 1, 2), 5);
+        DUE.is(NOT_TAKEN, "a MARGIN of 0, none read: taint(0, 0)", () -> x.taint(0, 0));
+        x.read(0, 0, 1);
+        x.read(1, 0, 2);
+        DUE.is(NOT_TAKEN, "a MARGIN of 0: taint(0, 0)", () -> x.taint(0, 0));
+        DUE.is(NOT_TAKEN, "a MARGIN of 0: taint(0, 99)", () -> x.taint(0, 99));
+        DUE.noSuchElement("a MARGIN of 0: taint(0, 100)", () -> x.taint(0, 100));
     }
 
-    private static void promise19NeedOfSmallRisks() {
-        SureCount x = Offices.sixToFour();
-        DUE.is(199, "need(0, 10)", () -> x.need(0, 10));
-        DUE.is(-1, "cut up it stays at 10: need(0, 9)", () -> x.need(0, 9));
-        DUE.is(-1, "need(0, 0)", () -> x.need(0, 0));
-        int[] words = words(150, 149);
-        SureCount y = Offices.withWords(2, 1, words);
-        y.paper(0, 0);
-        y.seal(1);
-        DUE.is(9767, "the slowest race: need(0, 659)", () -> y.need(0, 659));
-        DUE.is(-1, "cut up it stays at 659: need(0, 658)", () -> y.need(0, 658));
-        SureCount z = Offices.withWords(2, 1, 1);
-        z.seal(1);
-        DUE.is(34, "the fastest race: need(0, 2)", () -> z.need(0, 2));
-        DUE.is(-1, "cut up it stays at 2: need(0, 1)", () -> z.need(0, 1));
-    }
-
-    private static void promise19NeedIsNone() {
-        SureCount x = Offices.withWords(2, 1, 1, 1, 2);
-        DUE.is(-1, "unsealed: need(0, 1000000000)", () -> x.need(0, FULL));
-        DUE.illegalArgument("unsealed: need(0, -1)", () -> x.need(0, -1));
-        SureCount y = Offices.withWords(2, 1, 1, 2);
-        y.seal(1);
-        DUE.is(-1, "a margin of 0: need(0, 1000000000)", () -> y.need(0, FULL));
-        DUE.illegalArgument("a margin of 0: need(0, 1000000001)", () -> y.need(0, FULL + 1));
-    }
-
-    /** The document's formula in numbers without bounds. */
-    private static int carried(int risk, int size, int margin, int gap, int gapMargin) {
-        BigInteger above = BigInteger.valueOf(risk)
-                .multiply(BigInteger.valueOf(22L * size - 10L * margin))
-                .multiply(BigInteger.valueOf(22L * gapMargin));
-        BigInteger below = BigInteger.valueOf(22L * size)
-                .multiply(BigInteger.valueOf(22L * gapMargin - 10L * gap * margin));
-        BigInteger[] parts = above.divideAndRemainder(below);
-        BigInteger up = parts[1].signum() == 0 ? parts[0] : parts[0].add(BigInteger.ONE);
-        return up.min(BigInteger.valueOf(FULL)).intValue();
+    private static void promise18NoSuchDraw() {
+        DUE.sentence("Promise 18", "NoSuchElementException: also no such DRAW.");
+        DUE.noSuchElement("no draws: taint(0, 0)", () -> Offices.sixToFour().taint(0, 0));
+        DUE.noSuchElement("not sealed: taint(0, 0)", () -> Offices.unsealed().taint(0, 0));
+        SureCount x = Offices.atWork();
+        int[] others = {-1, 5, 2000, Integer.MIN_VALUE, Integer.MAX_VALUE};
+        for (int draw : others) {
+            DUE.noSuchElement("taint(0, " + draw + ")", () -> x.taint(0, draw));
+            DUE.noSuchElement("taint(1, " + draw + ")", () -> x.taint(1, draw));
+        }
+        DUE.noSuchElement("taint(2, 0)", () -> x.taint(2, 0));
+        DUE.noSuchElement("taint(-1, 0)", () -> x.taint(-1, 0));
     }
 }
