@@ -17,7 +17,7 @@ public final class NeedTest {
     }
 
     private static void howManyDrawsMore() {
-        DUE.sentence("Terms", "NEED: how many DRAWS more, all taken, with an X of 0 each, it would be until it is SURE");
+        DUE.sentence("Terms", "NEED: how many DRAWS more, all taken, with an X of 0 each, it would be until");
         SureCount x = Offices.sixToFour();
         DUE.is(8, "need(0, 500000000)", () -> x.need(0, 500_000_000));
         x.draw(4);

@@ -84,8 +84,10 @@ final class Told {
         tell("race(3, 2)", () -> x.race(3, 2));
         tell("box()", x::box);
         tell("paper(0, 0)", () -> x.paper(0, 0));
+        // Ahead of the seal too: a seed that a refused seal left behind would be hidden by the next one.
+        tell("draw(2)", () -> x.draw(2));
         tell("seal(99)", () -> x.seal(99));
-        tell("draw(3)", () -> x.draw(3));
+        tell("draw(2)", () -> x.draw(2));
         int papers = tell("count(2)", () -> x.count(2));
         for (int p = 0; p < papers; p++) {
             for (int h = 0; h <= 2; h++) {
